@@ -89,7 +89,7 @@ public final class TrustedUpdates {
         if (!draft.row.hasRoom(4)) {
             return false;
         }
-        draft.row.addFour(kept.digestOf());
+        draft.row.addFour(kept.ownDigest());
         return true;
     }
 
@@ -296,7 +296,7 @@ public final class TrustedUpdates {
     private boolean isSnapshotOfStamp() {
         Document stamp = documents[STAMP];
         return draft.version() == stamp.stampedVersion()
-                && draft.row.digestOf() == stamp.stampedDigest();
+                && draft.row.ownDigest() == stamp.stampedDigest();
     }
 
     private boolean isSnapshotNotOlder() {
@@ -343,9 +343,8 @@ public final class TrustedUpdates {
         if (document.targetAt(w, n) != NONE) {
             return role;
         }
-        int p = document.delegationsAt();
-        int count = document.row.get(p);
-        p++;
+        int count = document.row.get(document.delegationsAt);
+        int p = document.delegationsAt + 1;
         for (int i = 0; i < count; i++) {
             if (deeper > 0 && leadsOn(document, p, w, n)) {
                 int found = visit(document.row.get(p), w, n, deeper - 1);
@@ -391,15 +390,11 @@ public final class TrustedUpdates {
 
         /** NONE where there is no byte, so that no test of a value takes it for one. */
         int get(int i) {
-            return has(i) ? bytes[i] : NONE;
-        }
-
-        int getTwo(int i) {
-            return get(i) << 8 | get(i + 1);
+            return i >= 0 && i < size ? bytes[i] : NONE;
         }
 
         int getFour(int i) {
-            return getTwo(i) << 16 | getTwo(i + 2);
+            return get(i) << 24 | get(i + 1) << 16 | get(i + 2) << 8 | get(i + 3);
         }
 
         void change(int i, int v) {
@@ -429,14 +424,15 @@ public final class TrustedUpdates {
 
         int mixOf(int s, int count) {
             int h = s * 0x9E3779B9;
-            for (int i = 0; i < count; i++) {
-                h = (h ^ get(i)) * 0x01000193;
+            int stop = Math.min(count, size);
+            for (int i = 0; i < stop; i++) {
+                h = (h ^ bytes[i]) * 0x01000193;
                 h ^= h >>> 15;
             }
             return h;
         }
 
-        int digestOf() {
+        int ownDigest() {
             return mixOf(0, size);
         }
     }
@@ -447,10 +443,12 @@ public final class TrustedUpdates {
      */
     private static final class Document {
         private final Row row;
+        private int delegationsAt;
         private int signedSize;
 
         Document() {
             row = new Row();
+            delegationsAt = NONE;
             signedSize = NONE;
         }
 
@@ -460,11 +458,13 @@ public final class TrustedUpdates {
 
         void drop() {
             row.size = 0;
+            delegationsAt = NONE;
             signedSize = NONE;
         }
 
         void copyFrom(Document other) {
             row.copyFrom(other.row);
+            delegationsAt = other.delegationsAt;
             signedSize = other.signedSize;
         }
 
@@ -477,11 +477,12 @@ public final class TrustedUpdates {
         }
 
         int end() {
-            return row.getTwo(2);
+            return row.get(2) << 8 | row.get(3);
         }
 
-        /** Finds the signed part; to be called anew whenever the row may have changed. */
+        /** Finds the parts that later calls need; to be called anew whenever the row may have changed. */
         void parse() {
+            delegationsAt = NONE;
             signedSize = NONE;
             if (version() < 1) {
                 return;
@@ -498,7 +499,8 @@ public final class TrustedUpdates {
                     break;
                 default:
                     if (role() >= TARGETS && role() <= LAST_ROLE) {
-                        signedSize = afterDelegations(afterTargets(BODY_AT));
+                        delegationsAt = afterTargets(BODY_AT);
+                        signedSize = afterDelegations(delegationsAt);
                     }
                     break;
             }
@@ -618,11 +620,7 @@ public final class TrustedUpdates {
                 return false;
             }
             int rest = p + 1 + n;
-            return row.get(rest) == content.size && row.getFour(rest + 1) == content.digestOf();
-        }
-
-        int delegationsAt() {
-            return afterTargets(BODY_AT);
+            return row.get(rest) == content.size && row.getFour(rest + 1) == content.ownDigest();
         }
 
         boolean isFinalAt(int p) {

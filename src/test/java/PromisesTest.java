@@ -298,9 +298,11 @@ public final class PromisesTest {
     // Promise 12
 
     private static void begin() {
-        TrustedUpdates x = upToSnapshot(3, 1, 5, 1);
+        TrustedUpdates x = upToSnapshot(3, 1, 4, 1, 5, 1, 6, 1);
         due("targets", head(3).add(0, 0).signed(3).offeredTo(x), 3);
-        due("delegate", head(5).add(0, 0).signed().offeredTo(x), 5);
+        for (int role = 4; role <= 6; role++) {
+            due("delegate", head(role).add(0, 0).signed().offeredTo(x), role);
+        }
         due("a stamp is no root", Paper.of(1, 1, 3, 232, 1, 0, 0, 0, 0, 0).begunBy(x), ARGUMENT);
         due("unsigned part alone", root(2, 9).begunBy(x), ARGUMENT);
         due("bytes behind", root(2, 9).signed(0).add(0).begunBy(x), ARGUMENT);
@@ -393,6 +395,8 @@ public final class PromisesTest {
         malformed("name twice", head(3).add(2).target("ab", "x").target("ab", "y").add(0).signed());
         malformed("name twice, apart", head(4).add(3).target("ab", "").target("ac", "")
                 .target("ab", "").add(0).signed());
+        malformed("last name twice", head(4).add(4).target("a", "").target("b", "")
+                .target("ab", "x").target("ab", "").add(0).signed());
         wellFormed("names alike", head(4).add(3).target("ab", "").target("abc", "")
                 .target("b", "").add(0).signed());
         malformed("no delegations' number", head(3).add(1).target("ab", ""));
@@ -435,6 +439,15 @@ public final class PromisesTest {
         malformed("one less than said", root(1, 9).add(2).add(0).four(0));
         malformed("one more than said", root(1, 9).add(0).add(0).four(0));
         malformed("a byte behind", root(1, 9).signed(0).add(0));
+        TrustedUpdates x = new TrustedUpdates();
+        due("a document", Paper.snapshot(1, 9, 3, 1).signedIn(x, 0), 1);
+        x.alter(1, 0);
+        due("is none with version 0", Check.answerOf(() -> x.sign(0)), ARGUMENT);
+        due("nor for an offer", Check.answerOf(x::offer), ARGUMENT);
+        x.alter(1, 2);
+        due("and one again", Check.answerOf(() -> x.sign(0)), 2);
+        x.alter(0, 9);
+        due("but not for role 9", Check.answerOf(() -> x.sign(0)), ARGUMENT);
     }
 
     // Promise 13
@@ -478,6 +491,8 @@ public final class PromisesTest {
                 Paper.head(0, 2, 1000).set(1, 0).set(1, 1).set(1, 2, 7).set(1, 3), true);
         droppedAfter("more root keys", Paper.head(0, 2, 1000).set(1, 0, 5, 6).set(1, 1).set(1, 2)
                 .set(1, 3, 4), false);
+        droppedAfter("other threshold for targets", Paper.head(0, 2, 1000).set(1, 0).set(1, 1)
+                .set(1, 2).set(2, 3, 4), false);
         TrustedUpdates x = new TrustedUpdates();
         Paper.head(0, 1, 9).set(1, 0).set(1, 1, 2).set(1, 1).set(1, 1).signed().begunBy(x);
         Paper snapshot = Paper.snapshot(1, 9, 3, 1).signed(1);
@@ -485,6 +500,16 @@ public final class PromisesTest {
         due("other threshold", Paper.head(0, 2, 9).set(1, 0).set(2, 1, 2).set(1, 1).set(1, 1)
                 .signed(0).offeredTo(x), 0);
         due("drops the stamp", x.trusted(1, false), -1);
+        due("stamp of two", Paper.stamp(1, 9, snapshot).signed(1, 2).offeredTo(x), 1);
+        due("another last key", Paper.head(0, 3, 9).set(1, 0).set(2, 1, 3).set(1, 1).set(1, 1)
+                .signed(0).offeredTo(x), 0);
+        due("drops it too", x.trusted(1, false), -1);
+        due("one of two", Paper.head(0, 4, 9).set(1, 0).set(1, 1, 3).set(1, 1).set(1, 1)
+                .signed(0).offeredTo(x), 0);
+        due("stamp of one", Paper.stamp(1, 9, snapshot).signed(3).offeredTo(x), 1);
+        due("one of two others", Paper.head(0, 5, 9).set(1, 0).set(1, 1, 4).set(1, 1).set(1, 1)
+                .signed(0).offeredTo(x), 0);
+        due("drops it again", x.trusted(1, false), -1);
     }
 
     private static void droppedAfter(String what, Paper newRoot, boolean dropped) {
@@ -548,9 +573,12 @@ public final class PromisesTest {
         refusedAfterStamp(x, Paper.snapshot(3, 1000, 3, 5, 4, 6));
         refusedAfterStamp(x, Paper.snapshot(3, 1000, 3, 6));
         refusedAfterStamp(x, Paper.snapshot(3, 1000, 3, 6, 5, 7));
-        snapshotAnew(x, 4, 3, 5, 4, 8, 6, 1);
+        snapshotAnew(x, 4, 3, 5, 4, 8, 6, 2);
         due("version", x.trusted(2, false), 4);
-        Paper ended = Paper.snapshot(4, 20, 3, 5, 4, 8, 6, 1).signed(2);
+        Paper lastOlder = Paper.snapshot(4, 1000, 3, 5, 4, 8, 6, 1).signed(2);
+        due("its stamp", Paper.stamp(4, 1000, lastOlder).signed(1).offeredTo(x), 1);
+        due("the last is older", lastOlder.offeredTo(x), UNSUPPORTED);
+        Paper ended = Paper.snapshot(4, 20, 3, 5, 4, 8, 6, 2).signed(2);
         due("stamp of one that ends", Paper.stamp(4, 30, ended).signed(1).offeredTo(x), 1);
         x.tick(20);
         due("ended", ended.offeredTo(x), NO_ELEMENT);
@@ -599,6 +627,12 @@ public final class PromisesTest {
         due("end", x.trusted(5, true), 8);
         due("not the others", x.trusted(4, false), -1);
         due("nor TARGETS", x.trusted(3, false), -1);
+        TrustedUpdates y = new TrustedUpdates();
+        root(1, 1000).signed().begunBy(y);
+        Paper snapshot = Paper.snapshot(1, 1000, 3, 1).signed(2, 2, 2, 2);
+        due("stamp", Paper.stamp(1, 1000, snapshot).signed(1).offeredTo(y), 1);
+        due("four signatures", snapshot.offeredTo(y), 2);
+        due("are no entry for role 4", Paper.head(4, 2, 1000).add(0, 0).signed().offeredTo(y), INDEX);
     }
 
     private static void offerNamesTheFirstFault() {
