@@ -2,6 +2,12 @@ import java.util.Objects;
 
 /** Counts the answers that are not as due, and tells them. */
 final class Check {
+    static final String ARGUMENT = "throws.IllegalArgumentException";
+    static final String INDEX = "throws.IndexOutOfBoundsException";
+    static final String STATE = "throws.IllegalStateException";
+    static final String UNSUPPORTED = "throws.UnsupportedOperationException";
+    static final String NO_ELEMENT = "throws.NoSuchElementException";
+
     interface Call {
         Object run();
     }
@@ -22,8 +28,16 @@ final class Check {
         }
     }
 
-    void throwing(String what, Call call, Class<? extends RuntimeException> want) {
-        due(what, answerOf(call), "throws." + want.getSimpleName());
+    /** The call must answer or throw so. */
+    void answers(String what, Call call, Object want) {
+        due(what, answerOf(call), want);
+    }
+
+    /** The call must answer or throw so, and leave all that can be seen of the object as it was. */
+    void refused(String what, Client x, Call call, Object want) {
+        String before = x.sight();
+        answers(what, call, want);
+        due(what + ": what can be seen behind it", x.sight(), before);
     }
 
     /** The call's answer, or the exception's name behind "throws.". */

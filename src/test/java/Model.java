@@ -294,14 +294,14 @@ final class Model {
         }
     }
 
-    int begin() {
+    Object begin() {
         Doc d = draftAsDocument();
         if (d.role != 0) {
             throw new IllegalArgumentException();
         }
         docs.clear();
         docs.put(0, d);
-        return 0;
+        return "begun";
     }
 
     private void need(int role) {

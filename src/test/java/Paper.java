@@ -107,30 +107,36 @@ final class Paper {
         return h;
     }
 
-    TrustedUpdates into(TrustedUpdates x) {
+    Client into(Client x) {
         x.cut(0);
-        for (int b : bytes) {
-            if (!x.put(b, 1)) {
+        for (int i = 0; i < bytes.length; i += 8) {
+            int n = Math.min(8, bytes.length - i);
+            if (!x.put(packed(i, n), n)) {
                 throw new AssertionError("the paper is too long for a draft");
             }
         }
         return x;
     }
 
-    Object begunBy(TrustedUpdates x) {
-        into(x);
-        return Check.answerOf(() -> {
-            x.begin();
-            return "begun";
-        });
+    private long packed(int from, int n) {
+        long w = 0;
+        for (int i = n - 1; i >= 0; i--) {
+            w = w << 8 | bytes[from + i] & 255;
+        }
+        return w;
     }
 
-    Object offeredTo(TrustedUpdates x) {
+    Object begunBy(Client x) {
+        into(x);
+        return Check.answerOf(x::begin);
+    }
+
+    Object offeredTo(Client x) {
         into(x);
         return Check.answerOf(x::offer);
     }
 
-    Object signedIn(TrustedUpdates x, int key) {
+    Object signedIn(Client x, int key) {
         into(x);
         return Check.answerOf(() -> x.sign(key));
     }

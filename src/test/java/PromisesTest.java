@@ -5,11 +5,11 @@ import java.util.TreeSet;
 
 /** For each promise: ordinary inputs, the edges that the document names, and wrong inputs. */
 public final class PromisesTest {
-    private static final String ARGUMENT = "throws.IllegalArgumentException";
-    private static final String INDEX = "throws.IndexOutOfBoundsException";
-    private static final String STATE = "throws.IllegalStateException";
-    private static final String UNSUPPORTED = "throws.UnsupportedOperationException";
-    private static final String NO_ELEMENT = "throws.NoSuchElementException";
+    private static final String ARGUMENT = Check.ARGUMENT;
+    private static final String INDEX = Check.INDEX;
+    private static final String STATE = Check.STATE;
+    private static final String UNSUPPORTED = Check.UNSUPPORTED;
+    private static final String NO_ELEMENT = Check.NO_ELEMENT;
     private static final Check CHECK = new Check("PromisesTest");
 
     public static void main(String[] args) {
@@ -53,25 +53,16 @@ public final class PromisesTest {
         CHECK.due(what, got, want);
     }
 
-    private static long w(String name) {
-        long w = 0;
-        for (int i = name.length() - 1; i >= 0; i--) {
-            w = w << 8 | name.charAt(i);
-        }
-        return w;
+    private static Object seek(Client x, String name) {
+        return Check.answerOf(() -> x.seek(name));
     }
 
-    private static Object seek(TrustedUpdates x, String name) {
-        return Check.answerOf(() -> x.seek(w(name), name.length()));
+    private static Object install(Client x, String name) {
+        return Check.answerOf(() -> x.install(name));
     }
 
-    private static Object install(TrustedUpdates x, String name) {
-        return Check.answerOf(() -> x.install(w(name), name.length()));
-    }
-
-    private static void content(TrustedUpdates x, String text) {
-        Paper.of(text.chars().toArray()).into(x);
-        x.content();
+    private static void content(Client x, String text) {
+        x.keep(text);
     }
 
     private static Paper root(int version, int end) {
@@ -79,8 +70,8 @@ public final class PromisesTest {
     }
 
     /** Trusts root 1, stamp 1 and snapshot 1, all with end 1000; keys 0, 1, 2, 3. */
-    private static TrustedUpdates upToSnapshot(int... entries) {
-        TrustedUpdates x = new TrustedUpdates();
+    private static Client upToSnapshot(int... entries) {
+        Client x = new Client();
         due("root", root(1, 1000).signed(0).begunBy(x), "begun");
         Paper snapshot = Paper.snapshot(1, 1000, entries).signed(2);
         due("stamp", Paper.stamp(1, 1000, snapshot).signed(1).offeredTo(x), 1);
@@ -88,7 +79,7 @@ public final class PromisesTest {
         return x;
     }
 
-    private static void snapshotAnew(TrustedUpdates x, int version, int... entries) {
+    private static void snapshotAnew(Client x, int version, int... entries) {
         Paper snapshot = Paper.snapshot(version, 1000, entries).signed(2);
         due("new stamp", Paper.stamp(version, 1000, snapshot).signed(1).offeredTo(x), 1);
         due("new snapshot", snapshot.offeredTo(x), 2);
@@ -116,7 +107,7 @@ public final class PromisesTest {
     // Promise 1
 
     private static void newObject() {
-        TrustedUpdates x = new TrustedUpdates();
+        Client x = new Client();
         due("new length", x.length(), 0);
         due("new installed", x.installed(), 0);
         due("new visits", x.visits(), 0);
@@ -133,7 +124,7 @@ public final class PromisesTest {
     // Promises 2 to 6
 
     private static void put() {
-        TrustedUpdates x = new TrustedUpdates();
+        Client x = new Client();
         due("put 0 bytes", x.put(1, 0), false);
         due("put 9 bytes", x.put(1, 9), false);
         due("put -1 bytes", x.put(1, -1), false);
@@ -161,7 +152,7 @@ public final class PromisesTest {
     }
 
     private static void cut() {
-        TrustedUpdates x = new TrustedUpdates();
+        Client x = new Client();
         due("cut(0) of none", x.cut(0), true);
         due("cut(1) of none", x.cut(1), false);
         x.put(0x030201, 3);
@@ -178,7 +169,7 @@ public final class PromisesTest {
     }
 
     private static void alterLengthAt() {
-        TrustedUpdates x = new TrustedUpdates();
+        Client x = new Client();
         due("alter none", x.alter(0, 1), false);
         due("at none", Check.answerOf(() -> x.at(0)), INDEX);
         x.put(0x0201, 2);
@@ -198,7 +189,7 @@ public final class PromisesTest {
     // Promises 7 and 8
 
     private static void mixAndDigest() {
-        TrustedUpdates x = new TrustedUpdates();
+        Client x = new Client();
         due("mix of nothing with 0", x.mix(0), 0);
         due("mix of nothing with 1", x.mix(1), 0x9E3779B9);
         x.put(0x7978, 2);
@@ -226,7 +217,7 @@ public final class PromisesTest {
     // Promise 9
 
     private static void sign() {
-        TrustedUpdates x = new TrustedUpdates();
+        Client x = new Client();
         Paper bare = Paper.snapshot(1, 1000, 3, 1);
         due("sign a bare one", bare.signedIn(x, 4), 1);
         due("six bytes more", x.length(), 13);
@@ -255,7 +246,7 @@ public final class PromisesTest {
     }
 
     private static void signAtItsLimits() {
-        TrustedUpdates x = new TrustedUpdates();
+        Client x = new Client();
         due("a sixth", Paper.snapshot(1, 9, 3, 1).signed(1, 1, 1, 1, 1).signedIn(x, 9), 6);
         due("a seventh", Check.answerOf(() -> x.sign(9)), UNSUPPORTED);
         due("unchanged", x.length(), 7 + 1 + 30);
@@ -278,7 +269,7 @@ public final class PromisesTest {
     // Promises 10 and 11
 
     private static void contentAndTick() {
-        TrustedUpdates x = new TrustedUpdates();
+        Client x = new Client();
         due("empty content", x.content(), 0);
         x.put(0x414243, 3);
         due("content of 3", x.content(), 3);
@@ -298,7 +289,7 @@ public final class PromisesTest {
     // Promise 12
 
     private static void begin() {
-        TrustedUpdates x = upToSnapshot(3, 1, 4, 1, 5, 1, 6, 1);
+        Client x = upToSnapshot(3, 1, 4, 1, 5, 1, 6, 1);
         due("targets", head(3).add(0, 0).signed(3).offeredTo(x), 3);
         for (int role = 4; role <= 6; role++) {
             due("delegate", head(role).add(0, 0).signed().offeredTo(x), role);
@@ -323,11 +314,11 @@ public final class PromisesTest {
     // What is malformed, by way of offer: a malformed one is told first, whatever else is wrong
 
     private static void malformed(String what, Paper paper) {
-        due(what, paper.offeredTo(new TrustedUpdates()), ARGUMENT);
+        due(what, paper.offeredTo(new Client()), ARGUMENT);
     }
 
     private static void wellFormed(String what, Paper paper) {
-        due(what, paper.offeredTo(new TrustedUpdates()), INDEX);
+        due(what, paper.offeredTo(new Client()), INDEX);
     }
 
     private static void malformedHeadsAndRoots() {
@@ -439,7 +430,7 @@ public final class PromisesTest {
         malformed("one less than said", root(1, 9).add(2).add(0).four(0));
         malformed("one more than said", root(1, 9).add(0).add(0).four(0));
         malformed("a byte behind", root(1, 9).signed(0).add(0));
-        TrustedUpdates x = new TrustedUpdates();
+        Client x = new Client();
         due("a document", Paper.snapshot(1, 9, 3, 1).signedIn(x, 0), 1);
         x.alter(1, 0);
         due("is none with version 0", Check.answerOf(() -> x.sign(0)), ARGUMENT);
@@ -453,7 +444,7 @@ public final class PromisesTest {
     // Promise 13
 
     private static void offerRoot() {
-        TrustedUpdates x = new TrustedUpdates();
+        Client x = new Client();
         due("no root is trusted", root(1, 1000).signed(0).offeredTo(x), INDEX);
         Paper first = Paper.head(0, 5, 10).set(2, 0, 1, 2).set(1, 3).set(1, 4).set(1, 5);
         first.signed().begunBy(x);
@@ -493,7 +484,7 @@ public final class PromisesTest {
                 .set(1, 3, 4), false);
         droppedAfter("other threshold for targets", Paper.head(0, 2, 1000).set(1, 0).set(1, 1)
                 .set(1, 2).set(2, 3, 4), false);
-        TrustedUpdates x = new TrustedUpdates();
+        Client x = new Client();
         Paper.head(0, 1, 9).set(1, 0).set(1, 1, 2).set(1, 1).set(1, 1).signed().begunBy(x);
         Paper snapshot = Paper.snapshot(1, 9, 3, 1).signed(1);
         due("stamp", Paper.stamp(1, 9, snapshot).signed(1).offeredTo(x), 1);
@@ -513,7 +504,7 @@ public final class PromisesTest {
     }
 
     private static void droppedAfter(String what, Paper newRoot, boolean dropped) {
-        TrustedUpdates x = upToSnapshot(3, 1, 4, 1);
+        Client x = upToSnapshot(3, 1, 4, 1);
         due("targets", head(3).add(0, 0).signed(3).offeredTo(x), 3);
         due("delegate", head(4).add(0, 0).signed().offeredTo(x), 4);
         due(what, newRoot.signed(0, 5).offeredTo(x), 0);
@@ -525,7 +516,7 @@ public final class PromisesTest {
     }
 
     private static void offerStamp() {
-        TrustedUpdates x = new TrustedUpdates();
+        Client x = new Client();
         Paper four = Paper.snapshot(4, 1000, 3, 1).signed(2);
         Paper five = Paper.snapshot(5, 1000, 3, 1).signed(2);
         due("no root", Paper.stamp(1, 1000, five).signed(1).offeredTo(x), INDEX);
@@ -558,7 +549,7 @@ public final class PromisesTest {
     }
 
     private static void offerSnapshot() {
-        TrustedUpdates x = new TrustedUpdates();
+        Client x = new Client();
         Paper two = Paper.snapshot(2, 1000, 3, 5, 4, 7).signed(2);
         due("no root", two.offeredTo(x), INDEX);
         root(1, 1000).signed().begunBy(x);
@@ -587,7 +578,7 @@ public final class PromisesTest {
         due("stamp has ended", ended.offeredTo(x), INDEX);
     }
 
-    private static void refusedAfterStamp(TrustedUpdates x, Paper snapshot) {
+    private static void refusedAfterStamp(Client x, Paper snapshot) {
         snapshot.signed(2);
         due("stamp of it", Paper.stamp(3, 1000, snapshot).signed(1).offeredTo(x), 1);
         due("an older version in it", snapshot.offeredTo(x), UNSUPPORTED);
@@ -595,7 +586,7 @@ public final class PromisesTest {
     }
 
     private static void offerTargets() {
-        TrustedUpdates x = new TrustedUpdates();
+        Client x = new Client();
         due("no root", head(3).add(0, 0).signed(3).offeredTo(x), INDEX);
         root(1, 1000).signed().begunBy(x);
         due("no snapshot", head(3).add(0, 0).signed(3).offeredTo(x), INDEX);
@@ -617,7 +608,7 @@ public final class PromisesTest {
     }
 
     private static void offerDelegates() {
-        TrustedUpdates x = upToSnapshot(3, 1, 5, 4);
+        Client x = upToSnapshot(3, 1, 5, 4);
         due("not in the snapshot", head(4).add(0, 0).signed(3).offeredTo(x), INDEX);
         due("other version", head(5).add(0, 0).signed(3).offeredTo(x), UNSUPPORTED);
         x.tick(7);
@@ -627,7 +618,7 @@ public final class PromisesTest {
         due("end", x.trusted(5, true), 8);
         due("not the others", x.trusted(4, false), -1);
         due("nor TARGETS", x.trusted(3, false), -1);
-        TrustedUpdates y = new TrustedUpdates();
+        Client y = new Client();
         root(1, 1000).signed().begunBy(y);
         Paper snapshot = Paper.snapshot(1, 1000, 3, 1).signed(2, 2, 2, 2);
         due("stamp", Paper.stamp(1, 1000, snapshot).signed(1).offeredTo(y), 1);
@@ -636,7 +627,7 @@ public final class PromisesTest {
     }
 
     private static void offerNamesTheFirstFault() {
-        TrustedUpdates x = upToSnapshot(3, 2);
+        Client x = upToSnapshot(3, 2);
         x.tick(10);
         due("malformed and the rest", Paper.head(3, 1, 1).add(0, 0).signed(1).add(0).offeredTo(x), ARGUMENT);
         due("unsigned, old and ended", Paper.head(3, 1, 1).add(0, 0).signed(1).offeredTo(x), STATE);
@@ -656,7 +647,7 @@ public final class PromisesTest {
     // Promise 14
 
     private static void trusted() {
-        TrustedUpdates x = new TrustedUpdates();
+        Client x = new Client();
         root(255, 65535).signed().begunBy(x);
         due("version 255", x.trusted(0, false), 255);
         due("end 65535", x.trusted(0, true), 65535);
@@ -674,24 +665,24 @@ public final class PromisesTest {
     // Promises 15 and 16
 
     private static void seekErrors() {
-        TrustedUpdates x = new TrustedUpdates();
+        Client x = new Client();
         due("no letters", seek(x, ""), ARGUMENT);
         due("five letters", seek(x, "abcde"), ARGUMENT);
-        due("-1 letters", Check.answerOf(() -> x.seek(w("a"), -1)), ARGUMENT);
+        due("-1 letters", Check.answerOf(() -> x.seek(Client.w("a"), -1)), ARGUMENT);
         due("big letter", seek(x, "aB"), ARGUMENT);
         due("big letter first", seek(x, "Ba"), ARGUMENT);
         due("before a", seek(x, "abc`"), ARGUMENT);
         due("after z", seek(x, "{"), ARGUMENT);
-        due("letter missing", Check.answerOf(() -> x.seek(w("a"), 2)), ARGUMENT);
+        due("letter missing", Check.answerOf(() -> x.seek(Client.w("a"), 2)), ARGUMENT);
         due("a name", seek(x, "zzzz"), STATE);
-        due("only n letters count", Check.answerOf(() -> x.seek(w("ab") | 0xFFFF0000L, 2)), STATE);
+        due("only n letters count", Check.answerOf(() -> x.seek(Client.w("ab") | 0xFFFF0000L, 2)), STATE);
         due("install of no name", install(x, "A"), ARGUMENT);
         due("install of a name", install(x, "a"), STATE);
     }
 
     private static void seekWhatMustHold() {
         for (int first = 0; first <= 3; first++) {
-            TrustedUpdates x = new TrustedUpdates();
+            Client x = new Client();
             root(1, first == 0 ? 10 : 20).signed().begunBy(x);
             due("root alone", seek(x, "a"), STATE);
             Paper snapshot = Paper.snapshot(1, first == 2 ? 10 : 20, 3, 1).signed(2);
@@ -707,7 +698,7 @@ public final class PromisesTest {
             due("role " + first + " has ended", seek(x, "a"), STATE);
             due("install then", install(x, "a"), STATE);
         }
-        TrustedUpdates x = upToSnapshot(3, 1);
+        Client x = upToSnapshot(3, 1);
         due("targets", head(3).add(1).target("a", "").add(0).signed(3).offeredTo(x), 3);
         snapshotAnew(x, 2, 3, 2);
         due("still trusted", x.trusted(3, false), 1);
@@ -720,7 +711,7 @@ public final class PromisesTest {
     }
 
     private static void seekThroughDelegations() {
-        TrustedUpdates x = upToSnapshot(3, 1, 4, 1, 5, 1, 6, 1);
+        Client x = upToSnapshot(3, 1, 4, 1, 5, 1, 6, 1);
         due("targets", head(3).add(2).target("ab", "").target("zz", "").add(2)
                 .delegation(5, 0, 1, 5, "a").delegation(4, 0, 1, 4, "").signed(3).offeredTo(x), 3);
         due("role 4", head(4).add(3).target("abcd", "").target("q", "").target("zz", "").add(0)
@@ -741,13 +732,13 @@ public final class PromisesTest {
         found(x, "bab", -1, 2);
     }
 
-    private static void found(TrustedUpdates x, String name, int role, int visits) {
+    private static void found(Client x, String name, int role, int visits) {
         due("seek " + name, seek(x, name), role);
         due("visits of " + name, x.visits(), visits);
     }
 
     private static void seekSkipsWhatIsNotVouchedFor() {
-        TrustedUpdates x = upToSnapshot(3, 1, 4, 1, 5, 1);
+        Client x = upToSnapshot(3, 1, 4, 1, 5, 1);
         due("targets", head(3).add(0, 3)
                 .add(4, 1).set(2, 4, 5, 6).word("")
                 .delegation(5, 0, 1, 5, "").delegation(6, 1, 1, 6, "").signed(3).offeredTo(x), 3);
@@ -768,7 +759,7 @@ public final class PromisesTest {
     }
 
     private static void seekFinal() {
-        TrustedUpdates x = upToSnapshot(3, 1, 4, 1, 5, 1, 6, 1);
+        Client x = upToSnapshot(3, 1, 4, 1, 5, 1, 6, 1);
         due("targets", head(3).add(0, 2).delegation(4, 0, 1, 4, "").delegation(6, 0, 1, 6, "")
                 .signed(3).offeredTo(x), 3);
         due("role 4", head(4).add(0, 1).delegation(5, 1, 1, 5, "a").signed(4).offeredTo(x), 4);
@@ -782,7 +773,7 @@ public final class PromisesTest {
     }
 
     private static void seekInCircles() {
-        TrustedUpdates x = upToSnapshot(3, 1, 4, 1, 5, 1, 6, 1);
+        Client x = upToSnapshot(3, 1, 4, 1, 5, 1, 6, 1);
         due("targets", head(3).add(0, 2).delegation(4, 0, 1, 4, "").delegation(6, 1, 1, 6, "")
                 .signed(3).offeredTo(x), 3);
         due("role 4", head(4).add(0, 3).delegation(4, 1, 1, 4, "").delegation(5, 0, 1, 5, "")
@@ -795,7 +786,7 @@ public final class PromisesTest {
     }
 
     private static void visits() {
-        TrustedUpdates x = upToSnapshot(3, 1, 4, 1);
+        Client x = upToSnapshot(3, 1, 4, 1);
         due("targets", head(3).add(1).target("a", "x").add(1).delegation(4, 0, 1, 4, "")
                 .signed(3).offeredTo(x), 3);
         due("role 4", head(4).add(1).target("b", "x").add(0).signed(4).offeredTo(x), 4);
@@ -820,7 +811,7 @@ public final class PromisesTest {
     // Promises 17 and 18
 
     private static void install() {
-        TrustedUpdates x = upToSnapshot(3, 1, 4, 1);
+        Client x = upToSnapshot(3, 1, 4, 1);
         int digest = Paper.mix("xyz".chars().toArray(), 0);
         due("targets", head(3).add(3).target("a", "xyz").word("l").add(4).four(digest)
                 .target("e", "").add(1).delegation(4, 0, 1, 4, "b").signed(3).offeredTo(x), 3);
