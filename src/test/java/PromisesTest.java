@@ -1,5 +1,7 @@
+import java.lang.reflect.Field;
 import java.lang.reflect.Method;
 import java.lang.reflect.Modifier;
+import java.util.Arrays;
 import java.util.Set;
 import java.util.TreeSet;
 
@@ -92,16 +94,45 @@ public final class PromisesTest {
     // The face
 
     private static void face() {
-        Set<String> names = new TreeSet<>();
+        Set<String> methods = new TreeSet<>();
         for (Method m : TrustedUpdates.class.getDeclaredMethods()) {
             if (!Modifier.isPrivate(m.getModifiers())) {
-                names.add(m.getName());
+                methods.add(m.toString().replace("TrustedUpdates.", "").replace("java.lang.", "")
+                        .replace("java.util.", ""));
             }
         }
-        due("methods of the face", names, new TreeSet<>(Set.of("put", "cut", "alter", "length",
-                "at", "mix", "digest", "sign", "content", "tick", "begin", "offer", "trusted",
-                "seek", "visits", "install", "installed")));
+        due("methods of the face", methods, new TreeSet<>(Set.of(
+                "public boolean put(long,int)",
+                "public boolean cut(int)",
+                "public boolean alter(int,int)",
+                "public int length()",
+                "public int at(int) throws IndexOutOfBoundsException",
+                "public int mix(int)",
+                "public boolean digest()",
+                "public int sign(int) throws IndexOutOfBoundsException,IllegalArgumentException,"
+                        + "UnsupportedOperationException",
+                "public int content()",
+                "public int tick(int) throws IllegalArgumentException",
+                "public void begin() throws IllegalArgumentException",
+                "public int offer() throws IllegalArgumentException,IndexOutOfBoundsException,"
+                        + "IllegalStateException,UnsupportedOperationException,NoSuchElementException",
+                "public int trusted(int,boolean) throws IndexOutOfBoundsException",
+                "public int seek(long,int) throws IllegalArgumentException,IllegalStateException",
+                "public int visits()",
+                "public int install(long,int) throws IllegalArgumentException,IllegalStateException,"
+                        + "NoSuchElementException,UnsupportedOperationException",
+                "public int installed()")));
+        Set<String> fields = new TreeSet<>();
+        for (Field f : TrustedUpdates.class.getDeclaredFields()) {
+            if (!Modifier.isPrivate(f.getModifiers())) {
+                fields.add(f.toString());
+            }
+        }
+        due("fields of the face", fields, Set.of("public static final int TrustedUpdates.NONE"));
         due("NONE", TrustedUpdates.NONE, -1);
+        due("the class", Modifier.toString(TrustedUpdates.class.getModifiers()), "public final");
+        due("constructors", Arrays.toString(TrustedUpdates.class.getDeclaredConstructors()),
+                "[public TrustedUpdates()]");
     }
 
     // Promise 1
