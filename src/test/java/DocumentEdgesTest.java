@@ -536,7 +536,7 @@ public final class DocumentEdgesTest {
                 CHECK.refused("a byte behind role " + role + ": begin", x, x::begin, Check.ARGUMENT);
                 CHECK.refused("a byte behind role " + role + ": sign", x, () -> x.sign(0), Check.ARGUMENT);
                 x.cut(x.length() - 1);
-                CHECK.answers("without it: offer", x::offer, Check.INDEX);
+                CHECK.refused("without it: offer", x, x::offer, Check.INDEX);
             }
         }
         Client x = new Client();
@@ -580,11 +580,14 @@ public final class DocumentEdgesTest {
                 for (int b : paper.bytes()) {
                     model.put(b, 1);
                 }
+                String before = x.sight();
                 for (int v = from; v < from + 128; v++) {
                     x.alter(i, v);
                     model.alter(i, v);
                     CHECK.answers("byte " + i + " is " + v, x::offer, Check.answerOf(model::offer));
                 }
+                x.alter(i, paper.bytes()[i]);
+                CHECK.due("byte " + i + ": what can be seen behind all of them", x.sight(), before);
             }
         }
     }

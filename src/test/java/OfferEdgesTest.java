@@ -130,7 +130,7 @@ public final class OfferEdgesTest {
         }
         Client x = SCENE.withRoot();
         CHECK.due("root with another key", Paper.root(V, END, 7, 1, 2, 3).signed().begunBy(x), "begun");
-        CHECK.due("the old key", Paper.root(V + 1, END, 7, 1, 2, 3).signed(0).offeredTo(x), Check.STATE);
+        SCENE.refused("the old key", x, Paper.root(V + 1, END, 7, 1, 2, 3).signed(0), Check.STATE);
         CHECK.due("the new key", Paper.root(V + 1, END, 7, 1, 2, 3).signed(7).offeredTo(x), 0);
     }
 
@@ -224,7 +224,7 @@ public final class OfferEdgesTest {
         for (int bit = 0; bit < 32; bit++) {
             Client x = SCENE.withRoot();
             Paper paper = stamp0().signature(1, right ^ 1 << bit);
-            CHECK.due("bit " + bit + " is wrong", paper.offeredTo(x), Check.STATE);
+            SCENE.refused("bit " + bit + " is wrong", x, paper, Check.STATE);
             CHECK.due("not trusted", x.trusted(1, false), -1);
         }
         SCENE.refuses("a wrong one", SCENE::withRoot, stamp0().signature(1, 0), Check.STATE);
@@ -243,7 +243,7 @@ public final class OfferEdgesTest {
             int at = i;
             int byteThere = x.at(i);
             x.alter(i, byteThere ^ 2);
-            CHECK.answers("byte " + i + " altered behind signing", x::offer, Check.STATE);
+            CHECK.refused("byte " + i + " altered behind signing", x, x::offer, Check.STATE);
             x.alter(at, byteThere);
         }
         CHECK.answers("as it was", x::offer, 1);
@@ -259,9 +259,9 @@ public final class OfferEdgesTest {
         SCENE.takes("root 6 behind 5", SCENE.whole(), Scene.root(V + 1, END).signed(0));
         Client x = SCENE.withRoot(Scene.root(254, END));
         SCENE.takes("root 255 behind 254", x, Scene.root(255, END).signed(0));
-        CHECK.due("root 255 behind 255", Scene.root(255, END).signed(0).offeredTo(x), Check.UNSUPPORTED);
-        CHECK.due("root 1 behind 255", Scene.root(1, END).signed(0).offeredTo(x), Check.UNSUPPORTED);
-        CHECK.due("root 0 behind 255", Scene.root(0, END).signed(0).offeredTo(x), Check.ARGUMENT);
+        SCENE.refused("root 255 behind 255", x, Scene.root(255, END).signed(0), Check.UNSUPPORTED);
+        SCENE.refused("root 1 behind 255", x, Scene.root(1, END).signed(0), Check.UNSUPPORTED);
+        SCENE.refused("root 0 behind 255", x, Scene.root(0, END).signed(0), Check.ARGUMENT);
         CHECK.due("still 255", x.trusted(0, false), 255);
         Client y = SCENE.withRoot(Scene.root(1, END));
         SCENE.takes("root 2 behind 1", y, Scene.root(2, END).signed(0));
@@ -322,8 +322,13 @@ public final class OfferEdgesTest {
             CHECK.due(what + ": version of " + role, x.trusted(role, false), V);
             CHECK.due(what + ": end of " + role, x.trusted(role, true), END);
         }
-        CHECK.answers(what + ": seek", () -> x.seek("a"), gone ? Check.STATE : -1);
-        CHECK.due(what + ": targets", Scene.empty(3).signed(5, 6).offeredTo(x), gone ? Check.INDEX : 3);
+        if (gone) {
+            CHECK.refused(what + ": seek", x, () -> x.seek("a"), Check.STATE);
+            SCENE.refused(what + ": targets", x, Scene.empty(3).signed(5, 6), Check.INDEX);
+        } else {
+            CHECK.answers(what + ": seek", () -> x.seek("a"), -1);
+            SCENE.takes(what + ": targets", x, Scene.empty(3).signed(5, 6));
+        }
     }
 
     private static void otherStampOrSnapshotKeysDropBoth() {
@@ -366,16 +371,16 @@ public final class OfferEdgesTest {
         Client x = SCENE.whole();
         CHECK.due("other stamp key", Paper.root(V + 1, END, 0, 7, 2, 3).signed(0).offeredTo(x), 0);
         Paper older = Paper.snapshot(1, END, 3, 1).signed(2);
-        CHECK.due("the old key", Paper.stamp(1, END, older).signed(1).offeredTo(x), Check.STATE);
+        SCENE.refused("the old key", x, Paper.stamp(1, END, older).signed(1), Check.STATE);
         SCENE.takes("an older stamp", x, Paper.stamp(1, END, older).signed(7));
         SCENE.takes("an older snapshot with fewer roles", x, older);
         CHECK.due("the targets stay", x.trusted(3, false), V);
-        CHECK.answers("but are not fresh", () -> x.seek("a"), Check.STATE);
+        CHECK.refused("but are not fresh", x, () -> x.seek("a"), Check.STATE);
         SCENE.takes("older targets", x, Paper.head(3, 1, END).add(0, 1).delegation(5, 0, 1, 5, "").signed(3));
         CHECK.answers("a role without entry is not fresh", () -> x.seek("c"), -1);
         CHECK.due("not visited", x.visits(), 1);
         CHECK.due("though trusted", x.trusted(5, false), V);
-        CHECK.due("nor taken", Scene.empty(5).signed().offeredTo(x), Check.INDEX);
+        SCENE.refused("nor taken", x, Scene.empty(5).signed(), Check.INDEX);
     }
 
     // "All others: there must be a trusted root that has not ended, and: for a STAMP nothing more, for a SNAPSHOT a
@@ -520,8 +525,8 @@ public final class OfferEdgesTest {
         SCENE.takes("stamp 255 behind 5", SCENE.whole(), stamp(255, V));
         Client x = SCENE.withRoot();
         SCENE.takes("stamp 255", x, stamp(255, V));
-        CHECK.due("stamp 254 behind 255", stamp(254, V).offeredTo(x), Check.UNSUPPORTED);
-        CHECK.due("stamp 1 behind 255", stamp(1, V).offeredTo(x), Check.UNSUPPORTED);
+        SCENE.refused("stamp 254 behind 255", x, stamp(254, V), Check.UNSUPPORTED);
+        SCENE.refused("stamp 1 behind 255", x, stamp(1, V), Check.UNSUPPORTED);
         SCENE.takes("stamp 255 behind 255", x, stamp(255, V));
     }
 
@@ -533,10 +538,10 @@ public final class OfferEdgesTest {
         SCENE.takes("snapshot 255 behind 5", SCENE.whole(), stamp(V, 255));
         Client x = SCENE.whole();
         SCENE.takes("a stamp with 9, the snapshot stays", x, stamp(V, 9));
-        CHECK.due("8 is less than in the stamp", stamp(V, 8).offeredTo(x), Check.UNSUPPORTED);
+        SCENE.refused("8 is less than in the stamp", x, stamp(V, 8), Check.UNSUPPORTED);
         CHECK.due("though not than the snapshot's", x.trusted(2, false), V);
         x.tick(END - 1);
-        CHECK.due("a stamp that is about to end counts", stamp(V - 1, 9).offeredTo(x), Check.UNSUPPORTED);
+        SCENE.refused("a stamp that is about to end counts", x, stamp(V - 1, 9), Check.UNSUPPORTED);
     }
 
     private static void firstStampMayBeAny() {
@@ -545,8 +550,8 @@ public final class OfferEdgesTest {
         Client x = SCENE.withRoot();
         SCENE.offered(x, Paper.head(1, V, 10).add(V).four(0).signed(1), 1);
         x.tick(10);
-        CHECK.due("behind one that has ended", stamp(V - 1, V).offeredTo(x), Check.UNSUPPORTED);
-        CHECK.due("the same for the snapshot", stamp(V, V - 1).offeredTo(x), Check.UNSUPPORTED);
+        SCENE.refused("behind one that has ended", x, stamp(V - 1, V), Check.UNSUPPORTED);
+        SCENE.refused("the same for the snapshot", x, stamp(V, V - 1), Check.UNSUPPORTED);
         SCENE.takes("not less than it", x, stamp(V, V));
     }
 
@@ -606,7 +611,7 @@ public final class OfferEdgesTest {
         for (int bit = 0; bit < 32; bit++) {
             Client x = SCENE.withRoot();
             SCENE.offered(x, Paper.head(1, V, END).add(V).four(digest ^ 1 << bit).signed(1), 1);
-            CHECK.due("bit " + bit + " of the digest is wrong", Scene.snapshot().offeredTo(x), Check.UNSUPPORTED);
+            SCENE.refused("bit " + bit + " of the digest is wrong", x, Scene.snapshot(), Check.UNSUPPORTED);
             CHECK.due("not trusted", x.trusted(2, false), -1);
         }
         Supplier<Client> scene = () -> SCENE.withStamp(Scene.snapshot());
@@ -705,7 +710,7 @@ public final class OfferEdgesTest {
         SCENE.refuses("in place of trusted ones", SCENE::whole, Scene.empty(3).signed(4), Check.STATE);
         Client x = SCENE.whole();
         CHECK.due("another key for TARGETS", Paper.root(V + 1, END, 0, 1, 2, 7).signed(0).offeredTo(x), 0);
-        CHECK.due("the old key", Scene.empty(3).signed(3).offeredTo(x), Check.STATE);
+        SCENE.refused("the old key", x, Scene.empty(3).signed(3), Check.STATE);
         SCENE.takes("the new key", x, Scene.empty(3).signed(7));
     }
 
@@ -740,7 +745,7 @@ public final class OfferEdgesTest {
         SCENE.takes("4 at 2", x, Paper.head(4, 2, END).add(0, 0).signed());
         SCENE.takes("5 at 3", x, Paper.head(5, 3, END).add(0, 0).signed());
         SCENE.takes("6 at 255", x, Paper.head(6, 255, END).add(0, 0).signed());
-        CHECK.due("5 at 4's", Paper.head(5, 2, END).add(0, 0).signed().offeredTo(x), Check.UNSUPPORTED);
+        SCENE.refused("5 at 4's", x, Paper.head(5, 2, END).add(0, 0).signed(), Check.UNSUPPORTED);
     }
 
     private static void targetsHaveNotEnded() {
@@ -764,13 +769,13 @@ public final class OfferEdgesTest {
             x.tick(10000);
         }
         CHECK.due("clock", x.tick(5534), 65534);
-        CHECK.due("end 65534", Paper.head(1, V, 65534).add(V).four(0).signed(1).offeredTo(x), Check.NO_ELEMENT);
+        SCENE.refused("end 65534", x, Paper.head(1, V, 65534).add(V).four(0).signed(1), Check.NO_ELEMENT);
         SCENE.takes("end 65535", x, Paper.head(1, V, 65535).add(V).four(0).signed(1));
         x.tick(1);
-        CHECK.due("the root has ended", Paper.head(1, V, 65535).add(V).four(0).signed(1).offeredTo(x), Check.INDEX);
+        SCENE.refused("the root has ended", x, Paper.head(1, V, 65535).add(V).four(0).signed(1), Check.INDEX);
         SCENE.takes("the clock is past every end, but for a root", x, Scene.root(V + 1, 65535).signed(0));
         x.tick(10000);
-        CHECK.due("an end does not come round again", stamp(V, V).offeredTo(x), Check.INDEX);
+        SCENE.refused("an end does not come round again", x, stamp(V, V), Check.INDEX);
     }
 
     // "where several exceptions that a call names fit, it is the one that it names first"

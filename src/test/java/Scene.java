@@ -121,6 +121,12 @@ final class Scene {
         check.due(what + ": what it answers behind it", probe(x), probe(untouched));
     }
 
+    /** The offer to a client that goes on to be used must throw so, and leave what can be seen of it. */
+    void refused(String what, Client x, Paper paper, String want) {
+        paper.into(x);
+        check.refused(what, x, x::offer, want);
+    }
+
     /** The offer must be taken: the document is trusted for its role, and the others are as before. */
     void takes(String what, Client x, Paper paper) {
         int role = paper.bytes()[0];

@@ -88,7 +88,11 @@ public final class SeekEdgesTest {
                     CHECK.refused(what + ": seek", x, () -> x.seek(w, 4), Check.ARGUMENT);
                     CHECK.refused(what + ": install", x, () -> x.install(w, 4), Check.ARGUMENT);
                     int shorter = at;
-                    CHECK.answers("without it", () -> x.seek(w, shorter), at == 0 ? Check.ARGUMENT : -1);
+                    if (at == 0) {
+                        CHECK.refused("without it", x, () -> x.seek(w, shorter), Check.ARGUMENT);
+                    } else {
+                        CHECK.answers("without it", () -> x.seek(w, shorter), -1);
+                    }
                 }
             }
         }
