@@ -53,6 +53,10 @@ final class Check {
         return wrong > 0;
     }
 
+    int wrong() {
+        return wrong;
+    }
+
     void end() {
         System.out.println(name + ": " + checks + " checks, " + wrong + " wrong");
         if (wrong > 0) {

@@ -13,6 +13,10 @@ final class Client {
         return x;
     }
 
+    int callsLeft() {
+        return MOST_CALLS - calls;
+    }
+
     boolean put(long w, int n) {
         return called().put(w, n);
     }
